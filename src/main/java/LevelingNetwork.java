@@ -53,7 +53,7 @@ public final class LevelingNetwork {
         loopWay = new Way(survey, forest);
         sharing = new Sharing(survey);
         heights = new Heights(survey, forest);
-        bank = new Bank(survey, heights);
+        bank = new Bank(survey);
         changes = new Changes(survey, forest, loopWay, sharing);
         script = new Script();
         output = new StringBuilder();
@@ -333,19 +333,19 @@ public final class LevelingNetwork {
     public int wetColumns(int profile) throws IndexOutOfBoundsException, NoSuchElementException {
         requireProfile(profile);
         requireHeight(survey.site[profile]);
-        return bank.wetByColumns(profile);
+        return bank.wetByColumns(profile, surfaceAt(profile));
     }
 
     public int wetColumnsBySegments(int profile) throws IndexOutOfBoundsException, NoSuchElementException {
         requireProfile(profile);
         requireHeight(survey.site[profile]);
-        return bank.wetBySegments(profile);
+        return bank.wetBySegments(profile, surfaceAt(profile));
     }
 
     public int shores(int profile) throws IndexOutOfBoundsException, NoSuchElementException {
         requireProfile(profile);
         requireHeight(survey.site[profile]);
-        return bank.shoreLines(profile);
+        return bank.shoreLines(profile, surfaceAt(profile));
     }
 
     public int lowestColumn(int profile) throws IndexOutOfBoundsException, NoSuchElementException {
@@ -543,6 +543,11 @@ public final class LevelingNetwork {
         loopWay.traceLoop(line);
     }
 
+    /** How far the water stands above the benchmark of a profile: lower offsets are wet. */
+    private int surfaceAt(int profile) {
+        return survey.water - heights.byWay(survey.site[profile]);
+    }
+
     private char markOf(int line) {
         if (!survey.usable(line)) {
             return 'x';
@@ -573,8 +578,11 @@ public final class LevelingNetwork {
 
     private boolean wetColumnsAgree() {
         for (int i = 0; i < survey.profiles; i++) {
-            if (heights.exists(survey.site[i]) && bank.wetByColumns(i) != bank.wetBySegments(i)) {
-                return false;
+            if (heights.exists(survey.site[i])) {
+                int surface = surfaceAt(i);
+                if (bank.wetByColumns(i, surface) != bank.wetBySegments(i, surface)) {
+                    return false;
+                }
             }
         }
         return true;
@@ -724,7 +732,8 @@ public final class LevelingNetwork {
         }
 
         int levelled(int line) {
-            return doubleRun[line] ? Math.floorDiv(forward[line] - backward[line], 2) : forward[line];
+            // a shift rounds down below 0, too
+            return doubleRun[line] ? (forward[line] - backward[line]) >> 1 : forward[line];
         }
 
         int corrected(int line) {
@@ -1179,14 +1188,12 @@ public final class LevelingNetwork {
         }
     }
 
-    /** The profiles and the water in front of them. */
+    /** The offsets of the profiles; a surface is given as its height above the benchmark of the profile. */
     private static final class Bank {
         private final Survey survey;
-        private final Heights heights;
 
-        Bank(Survey survey, Heights heights) {
+        Bank(Survey survey) {
             this.survey = survey;
-            this.heights = heights;
         }
 
         boolean hasColumn(int profile, int column) {
@@ -1216,13 +1223,7 @@ public final class LevelingNetwork {
             return last >= 0 ? offset[last] : 0;
         }
 
-        /** How far the water stands above the benchmark of a profile: lower offsets are wet. */
-        private int waterAboveSite(int profile) {
-            return survey.water - heights.byWay(survey.site[profile]);
-        }
-
-        int wetByColumns(int profile) {
-            int surface = waterAboveSite(profile);
+        int wetByColumns(int profile, int surface) {
             int last = lastColumn(profile);
             int count = 0;
             for (int column = firstColumn(profile); column <= last; column++) {
@@ -1231,8 +1232,7 @@ public final class LevelingNetwork {
             return count;
         }
 
-        int shoreLines(int profile) {
-            int surface = waterAboveSite(profile);
+        int shoreLines(int profile, int surface) {
             int last = lastColumn(profile);
             int count = 0;
             for (int column = firstColumn(profile); column < last; column++) {
@@ -1254,14 +1254,13 @@ public final class LevelingNetwork {
             return lowest;
         }
 
-        int wetBySegments(int profile) {
+        int wetBySegments(int profile, int surface) {
             int[] distance = survey.distance[profile];
             int[] offset = survey.offset[profile];
             int last = survey.stations[profile] - 1;
             if (last < 0) {
                 return 0;
             }
-            int surface = waterAboveSite(profile);
             int count = offset[last] < surface ? 1 : 0;
             for (int i = 0; i < last; i++) {
                 int span = distance[i + 1] - distance[i];
@@ -1537,7 +1536,7 @@ public final class LevelingNetwork {
             position = 0;
             commands = 0;
             boolean more = true;
-            while (more && commands < MOST_COMMANDS) {
+            for (int i = 0; i < MOST_COMMANDS && more; i++) {
                 if (!readCommand()) {
                     return false;
                 }
@@ -1548,7 +1547,7 @@ public final class LevelingNetwork {
 
         private boolean readCommand() {
             Kind kind = readWord();
-            if (kind == null || !readForm(kind.form, arguments[commands])) {
+            if (kind == null || commands >= MOST_COMMANDS || !readForm(kind.form, arguments[commands])) {
                 return false;
             }
             kinds[commands] = kind;
@@ -1584,7 +1583,7 @@ public final class LevelingNetwork {
             boolean fits = true;
             for (int i = 0; i < form.length() && fits; i++) {
                 char sign = form.charAt(i);
-                int digits = sign == 'd' ? 1 : sign == 'n' ? 2 : sign == 'v' ? 5 : 0;
+                int digits = mostDigits(sign);
                 if (digits == 0) {
                     fits = readSign(sign);
                 } else if (read < MOST_ARGUMENTS) {
@@ -1593,6 +1592,19 @@ public final class LevelingNetwork {
                 }
             }
             return fits;
+        }
+
+        private static int mostDigits(char sign) {
+            switch (sign) {
+                case 'd':
+                    return 1;
+                case 'n':
+                    return 2;
+                case 'v':
+                    return 5;
+                default:
+                    return 0;
+            }
         }
 
         private boolean readArgument(int mostDigits, boolean signed, int[] row, int place) {

@@ -12,6 +12,7 @@ final class LoopsTest {
     public static void main(String[] args) {
         promise33IsInForest();
         promise33EqualLengths();
+        promise33To43AfterChanges();
         promise34And35ForestLength();
         promise36TreeCount();
         promise37And38Loops();
@@ -19,6 +20,7 @@ final class LoopsTest {
         promise41And42Misclosure();
         promise43Part();
         promise43EqualRemainders();
+        promise43OfTwoLoops();
         promise43WithoutTolerance();
         CHECK.end();
     }
@@ -49,6 +51,27 @@ final class LoopsTest {
         CHECK.due("isInForest of an intolerable one", x.isInForest(5), false);
         CHECK.dueThrow("isInForest beyond", INDEX, () -> x.isInForest(7));
         CHECK.dueThrow("isInForest below", INDEX, () -> x.isInForest(-1));
+    }
+
+    /** Every answer has to come from the lines as they are, also if nothing else was asked in between. */
+    private static void promise33To43AfterChanges() {
+        LevelingNetwork x = Build.triangle();
+        CHECK.due("isInForest", x.isInForest(0), true);
+        x.exclude(0);
+        CHECK.due("isInForest of an excluded line 0", x.isInForest(0), false);
+        x.include(0);
+        CHECK.due("loopAt", x.loopAt(0), 2);
+        x.exclude(1);
+        CHECK.due("forestLengthByGrowing", x.forestLengthByGrowing(), 14);
+        x.include(1);
+        CHECK.due("forestLength", x.forestLength(), 8);
+        x.exclude(0);
+        CHECK.due("treeCount", x.treeCount(), 2);
+        x.exclude(1);
+        CHECK.due("treeCount", x.treeCount(), 3);
+        x.include(0);
+        x.include(1);
+        CHECK.due("loopCount", x.loopCount(), 1);
     }
 
     private static void promise33EqualLengths() {
@@ -172,6 +195,16 @@ final class LoopsTest {
         for (int i = 0; i < want.length; i++) {
             CHECK.due("part " + i, x.part(3, i), want[i]);
         }
+    }
+
+    private static void promise43OfTwoLoops() {
+        LevelingNetwork x = squares();
+        CHECK.due("part of the first loop", x.part(0, 1), 14);
+        CHECK.due("part of the other loop", x.part(6, 4), 1);
+        CHECK.due("part of the other loop", x.part(6, 1), 0);
+        CHECK.due("part of the other loop", x.part(6, 0), 0);
+        CHECK.due("part of the first loop", x.part(0, 6), 0);
+        CHECK.due("part of the first loop", x.part(0, 0), 57);
     }
 
     private static void promise43WithoutTolerance() {

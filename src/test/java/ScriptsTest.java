@@ -25,6 +25,8 @@ final class ScriptsTest {
         promise62Everything();
         promise62And64WhatIsNotCovered();
         promise63And64Snapshot();
+        promise64AfterOtherThings();
+        promise64NewThingsAfterwards();
         CHECK.end();
     }
 
@@ -251,6 +253,59 @@ final class ScriptsTest {
         x.addLine(0, 3, 1, 1);
         x.undo();
         CHECK.due("lineCount", x.lineCount(), 3);
+    }
+
+    /** After the snapshot its things are undone, and other ones take their places. */
+    private static void promise64AfterOtherThings() {
+        LevelingNetwork x = Build.benchmarks(3);
+        x.fix(1, 8);
+        addThings(x, 0, 1, 11, 5);
+        x.save();
+        for (int i = 0; i < 5; i++) {
+            x.undo();
+        }
+        addThings(x, 2, 0, 44, 7);
+        x.restore();
+        CHECK.due("firstOf", x.firstOf(0), 0);
+        CHECK.due("secondOf", x.secondOf(0), 1);
+        CHECK.due("lengthOf", x.lengthOf(0), 5);
+        CHECK.due("levelledDifference", x.levelledDifference(0), 11);
+        CHECK.due("discrepancy", x.discrepancy(0), 0);
+        CHECK.due("ground", x.ground(0, 5), -3 + 5);
+        CHECK.due("ground", x.ground(0, 7), -3 + 11);
+    }
+
+    private static void addThings(LevelingNetwork x, int benchmark, int other, int forward, int length) {
+        x.addLine(benchmark, other, forward, length);
+        x.addBackwardRun(0, -forward);
+        x.addProfile(benchmark);
+        x.addStation(0, length, length);
+        x.addStation(0, length + 2, forward);
+    }
+
+    /** What the places held before must not be seen in new things. */
+    private static void promise64NewThingsAfterwards() {
+        LevelingNetwork x = new LevelingNetwork();
+        x.save();
+        for (int i = 0; i < 2; i++) {
+            x.restore();
+            x.addBenchmark();
+            x.addBenchmark();
+            x.addLine(0, 1, 3, 1);
+            x.addLine(0, 1, 1, 1);
+            x.addProfile(0);
+            CHECK.due("isFixed", x.isFixed(0), false);
+            CHECK.dueThrow("discrepancy", ELEMENT, () -> x.discrepancy(0));
+            CHECK.due("isExcluded", x.isExcluded(1), false);
+            CHECK.due("correction", x.correction(0), 0);
+            CHECK.due("levelledDifference", x.levelledDifference(0), 3);
+            CHECK.due("stationCount", x.stationCount(0), 0);
+            x.shareMisclosure(1);
+            x.fix(0, 5);
+            x.addBackwardRun(0, -1);
+            x.exclude(1);
+            x.addStation(0, 5, 5);
+        }
     }
 
     private static void promise62And64WhatIsNotCovered() {
