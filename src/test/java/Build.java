@@ -23,6 +23,15 @@ final class Build {
         return x;
     }
 
+    /** Lines of one length around all benchmarks; the last one has the given difference, the others 0. */
+    static LevelingNetwork ring(int lines, int length, int misclosure) {
+        LevelingNetwork x = benchmarks(lines);
+        for (int i = 0; i < lines; i++) {
+            x.addLine(i, (i + 1) % lines, i == lines - 1 ? misclosure : 0, length);
+        }
+        return x;
+    }
+
     static void type(LevelingNetwork x, String text) {
         for (int i = 0; i < text.length(); i++) {
             x.type(text.charAt(i));

@@ -602,11 +602,8 @@ public final class Model {
     public int runScript() {
         String text = script;
         script = "";
-        if (!SCRIPT.matcher(text).matches()) {
-            errorAt = 0;
-            while (errorAt < text.length() && canGoOn(text.substring(0, errorAt + 1))) {
-                errorAt++;
-            }
+        if (!isScript(text)) {
+            errorAt = errorPositionOf(text);
             throw new IllegalArgumentException();
         }
         State before = now.copy();
@@ -628,6 +625,18 @@ public final class Model {
         remember();
         now = after;
         return commands.length;
+    }
+
+    static boolean isScript(String text) {
+        return SCRIPT.matcher(text).matches();
+    }
+
+    static int errorPositionOf(String text) {
+        int position = 0;
+        while (position < text.length() && canGoOn(text.substring(0, position + 1))) {
+            position++;
+        }
+        return position;
     }
 
     private static boolean canGoOn(String start) {
