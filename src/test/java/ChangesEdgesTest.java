@@ -34,6 +34,8 @@ public final class ChangesEdgesTest {
         promise9LeastAndGreatestLoop();
         promise9EveryTolerance();
         promise9FewMillimetres();
+        promise9AddsUp();
+        promise9LongLoopBeforeShortOne();
         promise9Refused();
         promise10ResetCorrections();
         promise11LastProfile();
@@ -313,6 +315,44 @@ public final class ChangesEdgesTest {
         x.shareMisclosure(9);
         x.undo();
         CHECK.due("promise 9: sharing nothing is a change", x.waterLevel(), 3);
+    }
+
+    /** Loops that have lines in common: what a line gets is added to what it has, also back to 0. */
+    private static void promise9AddsUp() {
+        LevelingNetwork x = Build.benchmarks(2);
+        x.addLine(0, 1, 0, 1);
+        x.addLine(1, 0, 4, 1);
+        x.addLine(1, 0, 4, 1);
+        x.addLine(1, 0, -1, 1);
+        CHECK.due("promise 9: shareMisclosure(1)", x.shareMisclosure(1), 4);
+        CHECK.due("promise 9: correction(0)", x.correction(0), -2);
+        CHECK.due("promise 9: shareMisclosure(2)", x.shareMisclosure(2), 2);
+        CHECK.due("promise 9: correction(0)", x.correction(0), -3);
+        CHECK.due("promise 9: correction(2)", x.correction(2), -1);
+        CHECK.due("promise 9: shareMisclosure(3)", x.shareMisclosure(3), -4);
+        CHECK.due("promise 9: correction(0)", x.correction(0), -1);
+        CHECK.due("promise 9: correction(3)", x.correction(3), 2);
+        CHECK.due("promise 9: misclosure(3)", x.misclosure(3), 0);
+    }
+
+    /** The longer way ends with the line 0, and the shorter one behind it may get nothing of the longer one. */
+    private static void promise9LongLoopBeforeShortOne() {
+        LevelingNetwork x = Build.benchmarks(4);
+        for (int i = 0; i < 3; i++) {
+            x.addLine(i, i + 1, 0, 1);
+        }
+        x.addLine(0, 3, 5, 2);
+        x.addLine(2, 0, 4, 2);
+        CHECK.due("promise 9: shareMisclosure(3)", x.shareMisclosure(3), 5);
+        dueCorrections(x, new int[] {1, 1, 1, -2, 0});
+        CHECK.due("promise 9: shareMisclosure(4)", x.shareMisclosure(4), 6);
+        dueCorrections(x, new int[] {-1, 0, 1, -2, -3});
+    }
+
+    private static void dueCorrections(LevelingNetwork x, int[] want) {
+        for (int line = 0; line < want.length; line++) {
+            CHECK.due("promise 9: correction(" + line + ")", x.correction(line), want[line]);
+        }
     }
 
     private static void promise9Refused() {

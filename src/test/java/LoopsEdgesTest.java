@@ -24,6 +24,7 @@ public final class LoopsEdgesTest {
         promise43EveryAmount();
         promise43OutsideTheLoop();
         promise43LargestRemainders();
+        promise43OneLoopAfterAnother();
         CHECK.end();
     }
 
@@ -278,6 +279,19 @@ public final class LoopsEdgesTest {
             x.addLine(2, 0, -row[0], 5);
             for (int line = 0; line < 3; line++) {
                 CHECK.due("promise 43: part(2, " + line + ") of " + row[0], x.part(2, line), row[line + 1]);
+            }
+        }
+    }
+
+    /** The parts of a loop are the same whether or not those of other loops were asked for before. */
+    private static void promise43OneLoopAfterAnother() {
+        LevelingNetwork x = Scene.FULL.make();
+        for (int round = 0; round < 2; round++) {
+            for (int loop : new int[] {12, 13, 9, 15, 14}) {
+                for (int line = 0; line < 16; line++) {
+                    int want = Scene.FULL.make().part(loop, line);
+                    CHECK.due("promise 43: part(" + loop + ", " + line + ")", x.part(loop, line), want);
+                }
             }
         }
     }

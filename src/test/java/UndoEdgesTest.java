@@ -20,6 +20,8 @@ public final class UndoEdgesTest {
         promise62WhatIsNoChange();
         promise62And64EachKindOfChange();
         promise62And64LastOfEachKind();
+        promise64OverOtherThings();
+        promise64BareThingsAfterFullOnes();
         promise63And64Nothing();
         promise63Replaces();
         promise64NothingToUndo();
@@ -195,7 +197,6 @@ public final class UndoEdgesTest {
             List<String> restored = Look.survey(() -> filled(save.andThen(change).andThen(x -> x.restore())));
             CHECK.dueText("promise 64: a full network", Look.difference(restored, before), "");
         }
-        dueAfterEmptying(before);
     }
 
     private static LevelingNetwork filled(Consumer<LevelingNetwork> action) {
@@ -205,25 +206,104 @@ public final class UndoEdgesTest {
         return x;
     }
 
-    /** The places of a full network are taken by an empty one and come back with the next snapshot. */
-    private static void dueAfterEmptying(List<String> before) {
-        List<String> emptied = Look.survey(() -> {
-            LevelingNetwork x = new LevelingNetwork();
-            x.save();
-            fill(x);
-            x.restore();
-            return x;
-        });
+    /** Eight changes are saved and undone, and eight others take their places until the snapshot comes back. */
+    private static void promise64OverOtherThings() {
+        for (int kind = 0; kind < 4; kind++) {
+            int which = kind;
+            List<String> want = Look.survey(() -> {
+                LevelingNetwork x = startOf(which);
+                eightChanges(x, which, 1);
+                return x;
+            });
+            List<String> got = Look.survey(() -> {
+                LevelingNetwork x = startOf(which);
+                eightChanges(x, which, 1);
+                x.save();
+                for (int i = 0; i < 8; i++) {
+                    x.undo();
+                }
+                eightChanges(x, which, 2);
+                x.restore();
+                return x;
+            });
+            CHECK.dueText("promise 64: over other things, kind " + kind, Look.difference(got, want), "");
+        }
+    }
+
+    /** A network that lacks lines (0), backward runs too (1), profiles with stations (2) or stations (3). */
+    private static LevelingNetwork startOf(int kind) {
+        LevelingNetwork x = Build.benchmarks(10);
+        x.fix(0, 100);
+        for (int i = 0; i < (kind == 0 ? 8 : 12); i++) {
+            x.addLine(i % 10, (i + 1) % 10, i, 10);
+        }
+        if (kind == 3) {
+            for (int i = 0; i < 4; i++) {
+                x.addProfile(i);
+            }
+            x.addStation(3, 1, 1);
+            x.addStation(3, 2, 5);
+        }
+        return x;
+    }
+
+    private static void eightChanges(LevelingNetwork x, int kind, int version) {
+        for (int i = 0; i < 8; i++) {
+            int half = i / 2;
+            if (kind == 0) {
+                x.addLine((i + 8) % 10, (i + 8 + version) % 10, i * version, 10 * version + i);
+            } else if (kind == 1 && i % 2 == 0) {
+                x.addLine(half + version, 9 - half - version, 7 * version, 3 * version);
+            } else if (kind == 1) {
+                x.addBackwardRun(12 + half, -6 * version);
+            } else if (kind == 2 && i % 2 == 0) {
+                x.addProfile(half + version);
+            } else if (kind == 2) {
+                x.addStation(half, 20 * version, -version);
+            } else {
+                x.addStation(3, 10 * version + i, 3 * i * version);
+            }
+        }
+    }
+
+    private static void addBareThings(LevelingNetwork x) {
+        for (int i = 0; i < 10; i++) {
+            x.addBenchmark();
+        }
+        for (int i = 0; i < 16; i++) {
+            x.addLine(i % 2, 1 - i % 2, 0, 1);
+        }
+        for (int i = 0; i < 4; i++) {
+            x.addProfile(0);
+        }
+    }
+
+    /** The places of a full network are taken by an empty one and by new things that know nothing of the old ones. */
+    private static void promise64BareThingsAfterFullOnes() {
+        List<String> emptied = Look.survey(UndoEdgesTest::emptied);
         CHECK.dueText("promise 64: empty again", Look.difference(emptied, Look.survey(LevelingNetwork::new)), "");
-        List<String> refilled = Look.survey(() -> {
-            LevelingNetwork x = new LevelingNetwork();
-            x.save();
-            fill(x);
-            x.restore();
-            fill(x);
+        List<String> got = Look.survey(() -> {
+            LevelingNetwork x = emptied();
+            addBareThings(x);
             return x;
         });
-        CHECK.dueText("promise 64: full again", Look.difference(refilled, before), "");
+        List<String> want = Look.survey(() -> {
+            LevelingNetwork x = new LevelingNetwork();
+            addBareThings(x);
+            return x;
+        });
+        CHECK.dueText("promise 64: new things afterwards", Look.difference(got, want), "");
+    }
+
+    private static LevelingNetwork emptied() {
+        LevelingNetwork x = new LevelingNetwork();
+        x.save();
+        fill(x);
+        x.shareMisclosure(15);
+        x.exclude(0);
+        x.exclude(15);
+        x.restore();
+        return x;
     }
 
     private static void promise63And64Nothing() {
